@@ -1,0 +1,66 @@
+/** Counts the answers that are not as due, prints them, and ends the test with exit code 1 if there was one. */
+final class Check {
+    /** A call whose answer is of no interest. */
+    interface Call {
+        void run();
+    }
+
+    private static int checks;
+    private static int wrong;
+
+    private Check() {
+    }
+
+    static void same(String what, long got, long due) {
+        report(what, got == due, String.valueOf(got), String.valueOf(due));
+    }
+
+    static void same(String what, double got, double due) {
+        report(what, Double.compare(got, due) == 0, String.valueOf(got), String.valueOf(due));
+    }
+
+    static void same(String what, boolean got, boolean due) {
+        report(what, got == due, String.valueOf(got), String.valueOf(due));
+    }
+
+    static void same(String what, String got, String due) {
+        report(what, got.equals(due), got, due);
+    }
+
+    static void throwsIndex(String what, Call call) {
+        throwsExactly(what, IndexOutOfBoundsException.class, call);
+    }
+
+    static void throwsArgument(String what, Call call) {
+        throwsExactly(what, IllegalArgumentException.class, call);
+    }
+
+    static void throwsState(String what, Call call) {
+        throwsExactly(what, IllegalStateException.class, call);
+    }
+
+    static void throwsExactly(String what, Class<? extends RuntimeException> due, Call call) {
+        String got = "nothing";
+        try {
+            call.run();
+        } catch (RuntimeException e) {
+            got = e.getClass().getName();
+        }
+        report(what + " throws", got.equals(due.getName()), got, due.getName());
+    }
+
+    static void end(String test) {
+        System.out.println(test + ": " + checks + " checks, " + wrong + " wrong");
+        if (wrong != 0) {
+            System.exit(1);
+        }
+    }
+
+    private static void report(String what, boolean right, String got, String due) {
+        checks++;
+        if (!right) {
+            wrong++;
+            System.out.println(what + " answered " + got + ", due is " + due);
+        }
+    }
+}
