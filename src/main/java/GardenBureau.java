@@ -51,8 +51,8 @@ public final class GardenBureau {
     private final Garden garden = new Garden();
     private final Garden snapshot = new Garden();
     private final History history = new History();
-    private final Input input = new Input();
-    private final Script script = new Script(input);
+    private final Script script = new Script();
+    private final Input input = script.input;
     private final Report report = new Report();
     private boolean hasSnapshot;
 
@@ -1259,13 +1259,9 @@ public final class GardenBureau {
     /** Executes the input in a garden of its own; after an error it reads nothing more. */
     private static final class Script {
         final Garden garden = new Garden();
-        final Input input;
+        final Input input = new Input();
         int errorKind = NO_ERROR;
         int errorOffset = NONE;
-
-        Script(Input input) {
-            this.input = input;
-        }
 
         void execute() {
             garden.reset();

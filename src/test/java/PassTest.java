@@ -207,8 +207,9 @@ public final class PassTest {
         Check.same("price", twice.priceOf(0), 67);
         Check.same("67 * 2 / 3 = 44, 44 / 2", twice.refundOf(0), 22);
         Check.same("owed does not count", new GardenBureau().refundOf(1), 100);
-        bureau.refundPass(2);
-        Check.same("returned", bureau.refundOf(2), 0);
+        GardenBureau returned = new GardenBureau();
+        returned.refundPass(2);
+        Check.same("returned", returned.refundOf(2), 0);
     }
 
     private static void checkPassesThatAreNot() {

@@ -51,6 +51,7 @@ public final class PriceTest {
         Check.same("child, 3 days", bureau.quote(5, 3, GardenBureau.CHILD), 72);
         Check.same("child, 6 days", bureau.quote(7, 6, GardenBureau.CHILD), 187);
         Check.same("two scents", bureau.quote(6, 1, GardenBureau.ADULT), 35);
+        Check.same("three scents, 2 days", bureau.quote(7, 2, GardenBureau.ADULT), 130);
         bureau.setPrice(0, 1);
         Check.same("rounded down at the end", bureau.quote(1, 1, GardenBureau.CHILD), 0);
         Check.same("rounded down at the end", bureau.quote(1, 3, GardenBureau.CHILD), 1);

@@ -26,6 +26,8 @@ public final class ReportTest {
         bureau.refundPass(1);
         report(bureau, 1, "x-x-..........");
         Check.same("a report is no change", bureau.undoCount(), 6);
+        GardenBureau later = Feed.bureau("garden 9;bed 0 1 0 0;sell 1 1 3 adult;pass 224;visit 0 0;");
+        report(later, 0, "-x.");
         Check.end("ReportTest");
     }
 

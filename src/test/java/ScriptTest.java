@@ -7,6 +7,7 @@ public final class ScriptTest {
 
     public static void main(String[] args) {
         checkReplacing();
+        checkNothingStays();
         checkFailing();
         checkTokens();
         checkGarden();
@@ -67,6 +68,25 @@ public final class ScriptTest {
         fine("garden 1;", 0);
     }
 
+    private static void checkNothingStays() {
+        GardenBureau bureau = new GardenBureau();
+        Feed.run(bureau, START + "pass 32;visit 0 0;pluck 0 1;pay 0 4;sell 1 2 1 adult;refund 1;");
+        Check.same("refunds", bureau.refunds(), 4);
+        Feed.run(bureau, START + "lost 0;pass 32;visit 0 0;");
+        Check.same("the alarm of a failing script", bureau.alarms(), 0);
+        Feed.run(bureau, START);
+        Check.same("alarms", bureau.alarms(), 0);
+        Check.same("refunds", bureau.refunds(), 0);
+        Check.same("fines paid", bureau.finesPaid(), 0);
+        Check.same("plucked", bureau.plucked(), 0);
+        Check.same("takings", bureau.takings(), 9);
+        Check.same("blocked", bureau.isBlocked(0), false);
+        Check.same("violations", bureau.violations(), 0);
+        bureau.pass(32);
+        Check.throwsState("no visit yet", () -> bureau.pluck(0, 1));
+        Check.same("open ticks", bureau.isOpen(), true);
+    }
+
     private static void checkFailing() {
         GardenBureau bureau = new GardenBureau();
         bureau.setRate(7);
@@ -97,6 +117,7 @@ public final class ScriptTest {
         errorAt("garden ^1234;", 2);
         errorAt("^gardens 9;", 1);
         errorAt("^Garden 9;", 1);
+        errorAt("^gardenz 9;", 1);
         errorAt("garden^G 9;", 1);
         errorAt("garden^\t9;", 1);
         errorAt("garden^\r9;", 1);
@@ -135,6 +156,7 @@ public final class ScriptTest {
         errorAt("garden 9;^9;", 1);
         errorAt("garden 9;^beds 0 1 0 0;", 1);
         errorAt("garden 9;^be 0 1 0 0;", 1);
+        errorAt("garden 9;^xed 0 1 0 0;", 1);
         errorAt("garden 9;^bee 0 1 0 0;", 1);
         errorAt("garden 9;^adult;", 1);
     }
@@ -223,7 +245,7 @@ public final class ScriptTest {
         errorAt(START + "pass 32;pluck 0 1^;", 4);
         errorAt(START + "pass 32;visit 0 0;pluck 0 9;pluck 0 9;pluck 0 3 ^;", 4);
         errorAt(START + "pass 32;visit 0 0;pluck 0 1;pay 0 5^;", 4);
-        fine(START + "pass 32;visit 0 0;pluck 0 1;pay 0 4;", 1);
+        fine(START + "pass 32;visit 0 0;pluck 0 1;pay 0 1;pay 0 3;", 1);
         errorAt(START + "lost 0;lost 0^;", 4);
         errorAt(START + "replace 0^;", 4);
         errorAt(START + "lost 0;replace 0;replace 0^;", 4);
@@ -241,16 +263,16 @@ public final class ScriptTest {
         fine("garden 9;" + beds, 0);
         errorAt("garden 9;" + beds + "bed 0 1 0 0^;", 4);
         errorAt("garden 9;" + beds + "bed 0 1 ^100 0;", 2);
-        // A 31st pass, or a 51st card, finds no room in 500 bytes.
-        String sells = "sell 1 0 1child;".repeat(30);
+        // A 51st card finds no room in 500 bytes.
+        String sells = "sell1 0 1child;".repeat(30);
         fine("garden 9;" + sells, 30);
-        GardenBureau bureau = Feed.bureau("garden 9;" + sells);
-        Check.throwsState("31st pass", () -> bureau.sell(1, 0, 1, 0));
+        errorAt("garden 9;" + sells + "sell1 0 1child^;", 4);
+        errorAt("garden 9;" + sells + "sell1 0 ^0child;", 2);
     }
 
     private static void checkCommands() {
         GardenBureau bureau = Feed.bureau("garden 10 20;bed 1 5 0 9;bed 0 6 1 9;sell 3 0 4 adult;sell 1 1 2 child;"
-                + "peacocks 32 40;pass 41;visit 0 0;pluck 0 3;pay 0 5;lost 0;replace 0;pass 1;visit 2 1;refund 1;");
+                + "peacocks 32 40;pass 41;visit 0 0;pluck 0 3;pay 0 5;lost 0;replace 0;pass 1;visit 2 1;refund 1;peacocks 42 44;");
         Check.same("time", bureau.time(), 42);
         Check.same("scents", bureau.scentOf(0) * 10 + bureau.scentOf(1), 10);
         Check.same("places", bureau.placesLeft(0) * 10 + bureau.placesLeft(1), 55);
@@ -269,7 +291,7 @@ public final class ScriptTest {
         Check.same("returned", bureau.isReturned(1), true);
         Check.same("refunds", bureau.refunds(), 6);
         Check.same("takings", bureau.takings(), 108 + 12 + 5 + 5 - 6);
-        Check.same("open ticks", bureau.setPeacocks(32, 40), 27);
+        Check.same("ticks until open", bureau.ticksUntilOpen(), 3);
     }
 
     // The first error of the text counts, and the commands before it are executed before it is met.

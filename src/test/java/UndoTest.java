@@ -12,7 +12,9 @@ public final class UndoTest {
             checkUndoOf(change);
         }
         checkCount();
+        checkRows();
         checkWhatUndoLeaves();
+        checkFullBureau();
         checkScripts();
         checkSnapshot();
         checkSnapshotAcrossScripts();
@@ -81,6 +83,81 @@ public final class UndoTest {
         Check.same("a refused visit can be undone", bureau.undoCount(), 1);
     }
 
+    private static void checkRows() {
+        GardenBureau bureau = new GardenBureau();
+        bureau.setPause(0);
+        bureau.visit(1, 1);
+        bureau.visit(1, 0);
+        bureau.undo();
+        Check.same("pluck in the bed of the visit that is left", bureau.pluck(1, 1), 2);
+        bureau.refundPass(0);
+        bureau.pass(1);
+        bureau.undo();
+        Check.same("pass 0 is returned", bureau.isReturned(0), true);
+        bureau.undo();
+        Check.same("pass 0 is not returned", bureau.isReturned(0), false);
+        bureau.layBed(0, 2, 0, 0);
+        bureau.visit(1, 3);
+        bureau.pluck(1, 1);
+        bureau.undo();
+        bureau.undo();
+        bureau.undo();
+        Check.same("the bed is laid again", bureau.layBed(1, 3, 1, 2), 3);
+        Check.same("places", bureau.placesLeft(3), 3);
+        Check.same("visits", bureau.visitsTo(3), 0);
+        Check.same("blooms", bureau.blooms(3), 20);
+        String before = Picture.of(bureau);
+        bureau.sell(1, 0, 1, 0);
+        bureau.visit(3, 0);
+        bureau.pluck(3, 1);
+        bureau.refundPass(3);
+        for (int change = 0; change < 4; change++) {
+            bureau.undo();
+        }
+        Check.same("the pass is gone", Picture.of(bureau), before);
+        Check.same("the pass is sold again", bureau.sell(2, 0, 1, 0), 3);
+        Check.same("returned", bureau.isReturned(3), false);
+        Check.same("blocked", bureau.isBlocked(3), false);
+        Check.same("owed", bureau.owed(3), 0);
+        Check.same("used days", bureau.usedDays(3), 0);
+        Check.same("visits", bureau.visitsWith(3), 0);
+        Check.throwsState("no visit yet", () -> bureau.pluck(3, 1));
+    }
+
+    // 8 beds, 30 passes and 50 cards: every row is in use.
+    private static void checkFullBureau() {
+        GardenBureau bureau = new GardenBureau();
+        for (int bed = 3; bed < 8; bed++) {
+            bureau.layBed(0, 1, 0, 99);
+        }
+        bureau.replaceCard(0);
+        for (int pass = 3; pass < 30; pass++) {
+            bureau.sell(1, 0, 2, 0);
+        }
+        for (int pass = 3; pass < 22; pass++) {
+            bureau.reportLost(pass);
+            bureau.replaceCard(pass);
+        }
+        Check.same("beds", bureau.bedCount(), 8);
+        Check.same("passes", bureau.passCount(), 30);
+        Check.same("cards", bureau.cardCount(), 50);
+        Check.same("visit", bureau.visit(49, 7), GardenBureau.ALLOWED);
+        Check.same("pluck", bureau.pluck(49, 9), 36);
+        String before = Picture.of(bureau);
+        bureau.saveSnapshot();
+        Check.same("the next day", bureau.pass(54), 96);
+        Check.same("blooms", bureau.blooms(7), 14);
+        Check.same("places", bureau.placesLeft(7), 1);
+        Check.same("visits for each day", bureau.visitsPerDay(), 4.0 / 3.0);
+        Check.same("blocked cards", bureau.blockedShare(), 20.0f / 50.0f);
+        Check.same("violations", bureau.violations(), 0);
+        bureau.undo();
+        Check.same("undo", Picture.of(bureau), before);
+        Feed.run(bureau, "garden 9;");
+        bureau.restoreSnapshot();
+        Check.same("restore", Picture.of(bureau), before);
+    }
+
     private static void checkWhatUndoLeaves() {
         GardenBureau bureau = new GardenBureau();
         bureau.setRate(5);
@@ -138,6 +215,14 @@ public final class UndoTest {
         Check.same("a later snapshot", bureau.saveSnapshot(), 52);
         bureau.pass(7);
         Check.same("in place of the earlier one", bureau.restoreSnapshot(), 52);
+        bureau.setPeacocks(0, 0);
+        bureau.saveSnapshot();
+        bureau.layBed(0, 4, 0, 9);
+        bureau.sell(1, 0, 1, 0);
+        Check.same("visit of a bed that is forgotten", bureau.visit(bureau.cardCount() - 1, 3), GardenBureau.ALLOWED);
+        bureau.restoreSnapshot();
+        bureau.layBed(0, 4, 0, 9);
+        Check.same("the bed is laid again", bureau.placesLeft(3), 4);
     }
 
     private static void checkSnapshotAcrossScripts() {
