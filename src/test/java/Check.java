@@ -5,10 +5,28 @@ final class Check {
         void run();
     }
 
+    private static final java.util.BitSet PROMISES = new java.util.BitSet();
     private static int checks;
     private static int wrong;
+    private static int promise;
+    private static String subject = "";
 
     private Check() {
+    }
+
+    /** Says which promise, and which words of the document, the checks that follow are of. */
+    static void about(int number, String words) {
+        promise = number;
+        subject = "Promise " + number + ", \"" + words + "\": ";
+    }
+
+    /** Every promise of these must have had a check. */
+    static void everyPromise(int first, int last) {
+        promise = 0;
+        subject = "";
+        for (int number = first; number <= last; number++) {
+            same("Promise " + number + " is checked", PROMISES.get(number), true);
+        }
     }
 
     static void same(String what, long got, long due) {
@@ -40,13 +58,18 @@ final class Check {
     }
 
     static void throwsExactly(String what, Class<? extends RuntimeException> due, Call call) {
-        String got = "nothing";
+        String got = thrownBy(call);
+        report(what + " throws", got.equals(due.getName()), got, due.getName());
+    }
+
+    /** The name of the exception that a call throws, or "nothing". */
+    static String thrownBy(Call call) {
         try {
             call.run();
         } catch (RuntimeException e) {
-            got = e.getClass().getName();
+            return e.getClass().getName();
         }
-        report(what + " throws", got.equals(due.getName()), got, due.getName());
+        return "nothing";
     }
 
     static void end(String test) {
@@ -58,9 +81,10 @@ final class Check {
 
     private static void report(String what, boolean right, String got, String due) {
         checks++;
+        PROMISES.set(promise);
         if (!right) {
             wrong++;
-            System.out.println(what + " answered " + got + ", due is " + due);
+            System.out.println(subject + what + " answered " + got + ", due is " + due);
         }
     }
 }

@@ -4,6 +4,11 @@ final class Picture {
     }
 
     static String of(GardenBureau b) {
+        return ofHead(b) + ofPasses(b, 0, b.passCount()) + ofCards(b, 0, b.cardCount());
+    }
+
+    /** All but the passes and the cards. */
+    static String ofHead(GardenBureau b) {
         StringBuilder text = new StringBuilder();
         add(text, "time", b.time(), b.day(), b.isOpen() ? 1 : 0, b.ticksUntilOpen());
         add(text, "books", b.takings(), b.refunds(), b.finesPaid(), b.plucked(), b.alarms(), b.violations());
@@ -15,10 +20,20 @@ final class Picture {
             add(text, "\nbed", b.scentOf(bed), b.isInSeason(bed) ? 1 : 0, b.blooms(bed), b.placesLeft(bed),
                     b.visitsTo(bed), b.fineFor(bed, 1), b.fineFor(bed, 9));
         }
-        for (int pass = 0; pass < b.passCount(); pass++) {
+        return text.toString();
+    }
+
+    static String ofPasses(GardenBureau b, int from, int to) {
+        StringBuilder text = new StringBuilder();
+        for (int pass = from; pass < to; pass++) {
             addPass(text, b, pass);
         }
-        for (int card = 0; card < b.cardCount(); card++) {
+        return text.toString();
+    }
+
+    static String ofCards(GardenBureau b, int from, int to) {
+        StringBuilder text = new StringBuilder();
+        for (int card = from; card < to; card++) {
             add(text, "\ncard", b.passOf(card), b.isBlocked(card) ? 1 : 0, b.bedsFor(card));
             for (int bed = 0; bed < b.bedCount(); bed++) {
                 add(text, "bed", b.whyRefused(card, bed), b.sign(card, bed));

@@ -21,25 +21,6 @@ public final class ScriptTest {
         Check.end("ScriptTest");
     }
 
-    private static void error(String text, int kind, int offset) {
-        GardenBureau bureau = new GardenBureau();
-        Check.same("runScript of <" + text + ">", Feed.run(bureau, text), GardenBureau.NONE);
-        Check.same("kind of <" + text + ">", bureau.scriptErrorKind(), kind);
-        Check.same("offset of <" + text + ">", bureau.scriptErrorOffset(), offset);
-    }
-
-    /** The error is at the first byte of the part behind the mark '^', which is no part of the text. */
-    private static void errorAt(String marked, int kind) {
-        error(marked.replace("^", ""), kind, marked.indexOf('^'));
-    }
-
-    private static void fine(String text, int passes) {
-        GardenBureau bureau = new GardenBureau();
-        Check.same("runScript of <" + text + ">", Feed.run(bureau, text), passes);
-        Check.same("kind of <" + text + ">", bureau.scriptErrorKind(), 0);
-        Check.same("offset of <" + text + ">", bureau.scriptErrorOffset(), GardenBureau.NONE);
-    }
-
     private static void checkReplacing() {
         GardenBureau bureau = new GardenBureau();
         bureau.setPause(5);
@@ -65,7 +46,7 @@ public final class ScriptTest {
         Check.same("rate", bureau.setRate(1), 2);
         Check.same("open ticks", bureau.setPeacocks(0, 0), 36);
         Check.throwsIndex("a third scent", () -> bureau.setPrice(2, 1));
-        fine("garden 1;", 0);
+        ScriptCheck.fine("garden 1;", 0);
     }
 
     private static void checkNothingStays() {
@@ -108,166 +89,166 @@ public final class ScriptTest {
     }
 
     private static void checkTokens() {
-        fine("garden9 8;bed0 1 0 9;sell1 0 1adult;\n", 1);
-        fine(" \n garden\n9 8\n; bed 0\n1 0 9 ;sell 0001 0000 0014 child ; ", 1);
-        errorAt("garden ^00009;", 1);
-        errorAt("garden ^12345;", 1);
-        errorAt("garden 9 ^12345;", 1);
-        errorAt(START + "^12345", 1);
-        errorAt("garden ^1234;", 2);
-        errorAt("^gardens 9;", 1);
-        errorAt("^Garden 9;", 1);
-        errorAt("^gardenz 9;", 1);
-        errorAt("garden^G 9;", 1);
-        errorAt("garden^\t9;", 1);
-        errorAt("garden^\r9;", 1);
-        errorAt("garden 9^:", 1);
-        errorAt("garden 9^/", 1);
-        errorAt("garden 9^`", 1);
-        errorAt("garden 9^{", 1);
-        errorAt("garden ^-9;", 1);
-        errorAt("garden 9;^\0", 1);
-        errorAt("garden 9;^\u00e9", 1);
-        errorAt("garden 9;bed 0 1 0 9^.", 1);
+        ScriptCheck.fine("garden9 8;bed0 1 0 9;sell1 0 1adult;\n", 1);
+        ScriptCheck.fine(" \n garden\n9 8\n; bed 0\n1 0 9 ;sell 0001 0000 0014 child ; ", 1);
+        ScriptCheck.errorAt("garden ^00009;", 1);
+        ScriptCheck.errorAt("garden ^12345;", 1);
+        ScriptCheck.errorAt("garden 9 ^12345;", 1);
+        ScriptCheck.errorAt(START + "^12345", 1);
+        ScriptCheck.errorAt("garden ^1234;", 2);
+        ScriptCheck.errorAt("^gardens 9;", 1);
+        ScriptCheck.errorAt("^Garden 9;", 1);
+        ScriptCheck.errorAt("^gardenz 9;", 1);
+        ScriptCheck.errorAt("garden^G 9;", 1);
+        ScriptCheck.errorAt("garden^\t9;", 1);
+        ScriptCheck.errorAt("garden^\r9;", 1);
+        ScriptCheck.errorAt("garden 9^:", 1);
+        ScriptCheck.errorAt("garden 9^/", 1);
+        ScriptCheck.errorAt("garden 9^`", 1);
+        ScriptCheck.errorAt("garden 9^{", 1);
+        ScriptCheck.errorAt("garden ^-9;", 1);
+        ScriptCheck.errorAt("garden 9;^\0", 1);
+        ScriptCheck.errorAt("garden 9;^\u00e9", 1);
+        ScriptCheck.errorAt("garden 9;bed 0 1 0 9^.", 1);
     }
 
     private static void checkGarden() {
-        error("", 1, 0);
-        error("  \n ", 1, 4);
-        errorAt("^;", 1);
-        errorAt("^bed 0 1 0 0;", 1);
-        errorAt("^9", 1);
-        errorAt("garden^;", 1);
-        errorAt("garden^", 1);
-        errorAt("garden ^bed", 1);
-        errorAt("garden ^0;", 2);
-        errorAt("garden ^100;", 2);
-        fine("garden 1 99 50 1 99;", 0);
-        errorAt("garden 1 2 3 4 5 ^6;", 3);
-        errorAt("garden 1 2 3 4 5 ^99 100;", 3);
-        errorAt("garden 1 2 3 4 5 ^100;", 2);
-        errorAt("garden 1 2 3 4 5 ^0;", 2);
-        errorAt("garden 1 2 3 4 5 ^10000;", 1);
-        errorAt("garden 1 2 3 4 ^0 6;", 2);
-        errorAt("garden 9 ^sell", 1);
-        errorAt("garden 1 2 3 4 5 ^x", 1);
-        errorAt("garden 9;^garden 9;", 1);
-        errorAt("garden 9;^;", 1);
-        errorAt("garden 9;^9;", 1);
-        errorAt("garden 9;^beds 0 1 0 0;", 1);
-        errorAt("garden 9;^be 0 1 0 0;", 1);
-        errorAt("garden 9;^xed 0 1 0 0;", 1);
-        errorAt("garden 9;^bee 0 1 0 0;", 1);
-        errorAt("garden 9;^adult;", 1);
+        ScriptCheck.error("", 1, 0);
+        ScriptCheck.error("  \n ", 1, 4);
+        ScriptCheck.errorAt("^;", 1);
+        ScriptCheck.errorAt("^bed 0 1 0 0;", 1);
+        ScriptCheck.errorAt("^9", 1);
+        ScriptCheck.errorAt("garden^;", 1);
+        ScriptCheck.errorAt("garden^", 1);
+        ScriptCheck.errorAt("garden ^bed", 1);
+        ScriptCheck.errorAt("garden ^0;", 2);
+        ScriptCheck.errorAt("garden ^100;", 2);
+        ScriptCheck.fine("garden 1 99 50 1 99;", 0);
+        ScriptCheck.errorAt("garden 1 2 3 4 5 ^6;", 3);
+        ScriptCheck.errorAt("garden 1 2 3 4 5 ^99 100;", 3);
+        ScriptCheck.errorAt("garden 1 2 3 4 5 ^100;", 2);
+        ScriptCheck.errorAt("garden 1 2 3 4 5 ^0;", 2);
+        ScriptCheck.errorAt("garden 1 2 3 4 5 ^10000;", 1);
+        ScriptCheck.errorAt("garden 1 2 3 4 ^0 6;", 2);
+        ScriptCheck.errorAt("garden 9 ^sell", 1);
+        ScriptCheck.errorAt("garden 1 2 3 4 5 ^x", 1);
+        ScriptCheck.errorAt("garden 9;^garden 9;", 1);
+        ScriptCheck.errorAt("garden 9;^;", 1);
+        ScriptCheck.errorAt("garden 9;^9;", 1);
+        ScriptCheck.errorAt("garden 9;^beds 0 1 0 0;", 1);
+        ScriptCheck.errorAt("garden 9;^be 0 1 0 0;", 1);
+        ScriptCheck.errorAt("garden 9;^xed 0 1 0 0;", 1);
+        ScriptCheck.errorAt("garden 9;^bee 0 1 0 0;", 1);
+        ScriptCheck.errorAt("garden 9;^adult;", 1);
     }
 
     private static void checkNumbers() {
-        errorAt(START + "bed ^1 1 0 0;", 2);
-        errorAt(START + "bed 0 ^0 0 0;", 2);
-        errorAt(START + "bed 0 ^21 0 0;", 2);
-        errorAt(START + "bed 0 20 ^100 0;", 2);
-        errorAt(START + "bed 0 20 99 ^98;", 2);
-        errorAt(START + "bed 0 20 99 ^100;", 2);
-        fine(START + "bed 0 20 99 99;", 1);
-        errorAt(START + "sell ^0 0 1 adult;", 2);
-        errorAt(START + "sell ^2 0 1 adult;", 2);
-        errorAt(START + "sell 1 ^100 1 adult;", 2);
-        errorAt(START + "pass 96;sell 1 ^0 1 adult;", 2);
-        fine(START + "pass 95;sell 1 0 1 adult;", 2);
-        fine(START + "pass 96;sell 1 1 1 adult;", 2);
-        errorAt(START + "sell 1 99 ^0 adult;", 2);
-        errorAt(START + "sell 1 99 ^15 adult;", 2);
-        fine(START + "sell 1 99 14 adult;", 2);
-        fine("garden 1 1 1 1 1;sell 31 0 1 child;", 1);
-        errorAt("garden 1 1 1 1 1;sell ^32 0 1 child;", 2);
-        errorAt(START + "pass 32;visit ^1 0;", 2);
-        errorAt(START + "pass 32;visit 0 ^1;", 2);
-        errorAt("garden 9;visit ^0 0;", 2);
-        errorAt("garden 9;sell 1 0 1 adult;visit 0 ^0;", 2);
-        errorAt(START + "pass 32;visit 0 0;pluck ^1 1;", 2);
-        errorAt(START + "pass 32;visit 0 0;pluck 0 ^0;", 2);
-        errorAt(START + "pass 32;visit 0 0;pluck 0 ^10;", 2);
-        fine(START + "pass 32;visit 0 0;pluck 0 9;", 1);
-        errorAt(START + "pay ^1 1;", 2);
-        errorAt(START + "pay 0 ^0;", 2);
-        errorAt(START + "pay 0 9999^;", 4);
-        errorAt(START + "lost ^1;", 2);
-        errorAt(START + "replace ^1;", 2);
-        errorAt(START + "refund ^1;", 2);
-        errorAt(START + "peacocks ^96 95;", 2);
-        errorAt(START + "peacocks 95 ^94;", 2);
-        errorAt(START + "peacocks 95 ^96;", 2);
-        fine(START + "peacocks 95 95;peacocks 0 0;", 1);
-        errorAt(START + "pass ^0;", 2);
-        errorAt(START + "pass ^501;", 2);
-        fine(START + "pass 500;", 1);
+        ScriptCheck.errorAt(START + "bed ^1 1 0 0;", 2);
+        ScriptCheck.errorAt(START + "bed 0 ^0 0 0;", 2);
+        ScriptCheck.errorAt(START + "bed 0 ^21 0 0;", 2);
+        ScriptCheck.errorAt(START + "bed 0 20 ^100 0;", 2);
+        ScriptCheck.errorAt(START + "bed 0 20 99 ^98;", 2);
+        ScriptCheck.errorAt(START + "bed 0 20 99 ^100;", 2);
+        ScriptCheck.fine(START + "bed 0 20 99 99;", 1);
+        ScriptCheck.errorAt(START + "sell ^0 0 1 adult;", 2);
+        ScriptCheck.errorAt(START + "sell ^2 0 1 adult;", 2);
+        ScriptCheck.errorAt(START + "sell 1 ^100 1 adult;", 2);
+        ScriptCheck.errorAt(START + "pass 96;sell 1 ^0 1 adult;", 2);
+        ScriptCheck.fine(START + "pass 95;sell 1 0 1 adult;", 2);
+        ScriptCheck.fine(START + "pass 96;sell 1 1 1 adult;", 2);
+        ScriptCheck.errorAt(START + "sell 1 99 ^0 adult;", 2);
+        ScriptCheck.errorAt(START + "sell 1 99 ^15 adult;", 2);
+        ScriptCheck.fine(START + "sell 1 99 14 adult;", 2);
+        ScriptCheck.fine("garden 1 1 1 1 1;sell 31 0 1 child;", 1);
+        ScriptCheck.errorAt("garden 1 1 1 1 1;sell ^32 0 1 child;", 2);
+        ScriptCheck.errorAt(START + "pass 32;visit ^1 0;", 2);
+        ScriptCheck.errorAt(START + "pass 32;visit 0 ^1;", 2);
+        ScriptCheck.errorAt("garden 9;visit ^0 0;", 2);
+        ScriptCheck.errorAt("garden 9;sell 1 0 1 adult;visit 0 ^0;", 2);
+        ScriptCheck.errorAt(START + "pass 32;visit 0 0;pluck ^1 1;", 2);
+        ScriptCheck.errorAt(START + "pass 32;visit 0 0;pluck 0 ^0;", 2);
+        ScriptCheck.errorAt(START + "pass 32;visit 0 0;pluck 0 ^10;", 2);
+        ScriptCheck.fine(START + "pass 32;visit 0 0;pluck 0 9;", 1);
+        ScriptCheck.errorAt(START + "pay ^1 1;", 2);
+        ScriptCheck.errorAt(START + "pay 0 ^0;", 2);
+        ScriptCheck.errorAt(START + "pay 0 9999^;", 4);
+        ScriptCheck.errorAt(START + "lost ^1;", 2);
+        ScriptCheck.errorAt(START + "replace ^1;", 2);
+        ScriptCheck.errorAt(START + "refund ^1;", 2);
+        ScriptCheck.errorAt(START + "peacocks ^96 95;", 2);
+        ScriptCheck.errorAt(START + "peacocks 95 ^94;", 2);
+        ScriptCheck.errorAt(START + "peacocks 95 ^96;", 2);
+        ScriptCheck.fine(START + "peacocks 95 95;peacocks 0 0;", 1);
+        ScriptCheck.errorAt(START + "pass ^0;", 2);
+        ScriptCheck.errorAt(START + "pass ^501;", 2);
+        ScriptCheck.fine(START + "pass 500;", 1);
     }
 
     private static void checkWords() {
-        errorAt(START + "sell 1 0 1 ^adults;", 1);
-        errorAt(START + "sell 1 0 1 ^childs;", 1);
-        errorAt(START + "sell 1 0 1 ^0;", 1);
-        errorAt(START + "sell 1 0 1^;", 1);
-        errorAt(START + "sell 1 0 ^adult;", 1);
-        errorAt(START + "sell ^adult;", 1);
-        errorAt(START + "sell 1 0 1 child ^0;", 1);
-        errorAt(START + "sell 1 0 1 child ^child;", 1);
-        errorAt(START + "bed 0 1 0 9 ^9;", 1);
-        errorAt(START + "bed 0 1 0^;", 1);
-        errorAt(START + "visit 0^;", 1);
-        errorAt(START + "visit 0 0 ^pluck", 1);
-        errorAt(START + "lost^;", 1);
-        errorAt(START + "lost 0 ^0;", 1);
-        errorAt(START + "pass ^x;", 1);
-        errorAt(START + "pass 1 ^1;", 1);
-        errorAt(START + "peacocks 1^;", 1);
-        errorAt(START + "pay 0^;", 1);
-        errorAt(START + "pluck 0^;", 1);
-        errorAt(START + "replace^;", 1);
-        errorAt(START + "refund^;", 1);
+        ScriptCheck.errorAt(START + "sell 1 0 1 ^adults;", 1);
+        ScriptCheck.errorAt(START + "sell 1 0 1 ^childs;", 1);
+        ScriptCheck.errorAt(START + "sell 1 0 1 ^0;", 1);
+        ScriptCheck.errorAt(START + "sell 1 0 1^;", 1);
+        ScriptCheck.errorAt(START + "sell 1 0 ^adult;", 1);
+        ScriptCheck.errorAt(START + "sell ^adult;", 1);
+        ScriptCheck.errorAt(START + "sell 1 0 1 child ^0;", 1);
+        ScriptCheck.errorAt(START + "sell 1 0 1 child ^child;", 1);
+        ScriptCheck.errorAt(START + "bed 0 1 0 9 ^9;", 1);
+        ScriptCheck.errorAt(START + "bed 0 1 0^;", 1);
+        ScriptCheck.errorAt(START + "visit 0^;", 1);
+        ScriptCheck.errorAt(START + "visit 0 0 ^pluck", 1);
+        ScriptCheck.errorAt(START + "lost^;", 1);
+        ScriptCheck.errorAt(START + "lost 0 ^0;", 1);
+        ScriptCheck.errorAt(START + "pass ^x;", 1);
+        ScriptCheck.errorAt(START + "pass 1 ^1;", 1);
+        ScriptCheck.errorAt(START + "peacocks 1^;", 1);
+        ScriptCheck.errorAt(START + "pay 0^;", 1);
+        ScriptCheck.errorAt(START + "pluck 0^;", 1);
+        ScriptCheck.errorAt(START + "replace^;", 1);
+        ScriptCheck.errorAt(START + "refund^;", 1);
     }
 
     private static void checkEnds() {
-        errorAt("garden 9^", 1);
-        errorAt("garden 9  \n^", 1);
-        errorAt("garden 9;bed^", 1);
-        errorAt("garden 9;bed 0 1^", 1);
-        errorAt("garden 9;bed 0 1 0 0  ^", 1);
-        errorAt(START + "sell 1 0 1^", 1);
-        errorAt(START + "sell 1 0 1 adult^", 1);
-        errorAt(START + "replace 0^", 1);
-        fine(START + "  \n", 1);
+        ScriptCheck.errorAt("garden 9^", 1);
+        ScriptCheck.errorAt("garden 9  \n^", 1);
+        ScriptCheck.errorAt("garden 9;bed^", 1);
+        ScriptCheck.errorAt("garden 9;bed 0 1^", 1);
+        ScriptCheck.errorAt("garden 9;bed 0 1 0 0  ^", 1);
+        ScriptCheck.errorAt(START + "sell 1 0 1^", 1);
+        ScriptCheck.errorAt(START + "sell 1 0 1 adult^", 1);
+        ScriptCheck.errorAt(START + "replace 0^", 1);
+        ScriptCheck.fine(START + "  \n", 1);
     }
 
     private static void checkNotExecutable() {
-        errorAt(START + "visit 0 0^;", 4);
-        errorAt(START + "pass 32;visit 0 0;visit 0 0^;", 4);
-        errorAt(START + "pass 32;pluck 0 1^;", 4);
-        errorAt(START + "pass 32;visit 0 0;pluck 0 9;pluck 0 9;pluck 0 3 ^;", 4);
-        errorAt(START + "pass 32;visit 0 0;pluck 0 1;pay 0 5^;", 4);
-        fine(START + "pass 32;visit 0 0;pluck 0 1;pay 0 1;pay 0 3;", 1);
-        errorAt(START + "lost 0;lost 0^;", 4);
-        errorAt(START + "replace 0^;", 4);
-        errorAt(START + "lost 0;replace 0;replace 0^;", 4);
-        errorAt(START + "refund 0;refund 0^;", 4);
-        errorAt(START + "refund 0;replace 0^;", 4);
-        errorAt(START + "refund 0;lost 0^;", 4);
-        errorAt(START + "lost 0;pass 32;visit 0 0^;", 4);
+        ScriptCheck.errorAt(START + "visit 0 0^;", 4);
+        ScriptCheck.errorAt(START + "pass 32;visit 0 0;visit 0 0^;", 4);
+        ScriptCheck.errorAt(START + "pass 32;pluck 0 1^;", 4);
+        ScriptCheck.errorAt(START + "pass 32;visit 0 0;pluck 0 9;pluck 0 9;pluck 0 3 ^;", 4);
+        ScriptCheck.errorAt(START + "pass 32;visit 0 0;pluck 0 1;pay 0 5^;", 4);
+        ScriptCheck.fine(START + "pass 32;visit 0 0;pluck 0 1;pay 0 1;pay 0 3;", 1);
+        ScriptCheck.errorAt(START + "lost 0;lost 0^;", 4);
+        ScriptCheck.errorAt(START + "replace 0^;", 4);
+        ScriptCheck.errorAt(START + "lost 0;replace 0;replace 0^;", 4);
+        ScriptCheck.errorAt(START + "refund 0;refund 0^;", 4);
+        ScriptCheck.errorAt(START + "refund 0;replace 0^;", 4);
+        ScriptCheck.errorAt(START + "refund 0;lost 0^;", 4);
+        ScriptCheck.errorAt(START + "lost 0;pass 32;visit 0 0^;", 4);
         String almostAllDays = "garden 9;" + "pass 480;".repeat(19);
-        fine(almostAllDays + "pass 479;", 0);
-        errorAt(almostAllDays + "pass 480^;", 4);
+        ScriptCheck.fine(almostAllDays + "pass 479;", 0);
+        ScriptCheck.errorAt(almostAllDays + "pass 480^;", 4);
     }
 
     private static void checkFullBureau() {
         String beds = "bed 0 1 0 0;".repeat(8);
-        fine("garden 9;" + beds, 0);
-        errorAt("garden 9;" + beds + "bed 0 1 0 0^;", 4);
-        errorAt("garden 9;" + beds + "bed 0 1 ^100 0;", 2);
+        ScriptCheck.fine("garden 9;" + beds, 0);
+        ScriptCheck.errorAt("garden 9;" + beds + "bed 0 1 0 0^;", 4);
+        ScriptCheck.errorAt("garden 9;" + beds + "bed 0 1 ^100 0;", 2);
         // A 51st card finds no room in 500 bytes.
         String sells = "sell1 0 1child;".repeat(30);
-        fine("garden 9;" + sells, 30);
-        errorAt("garden 9;" + sells + "sell1 0 1child^;", 4);
-        errorAt("garden 9;" + sells + "sell1 0 ^0child;", 2);
+        ScriptCheck.fine("garden 9;" + sells, 30);
+        ScriptCheck.errorAt("garden 9;" + sells + "sell1 0 1child^;", 4);
+        ScriptCheck.errorAt("garden 9;" + sells + "sell1 0 ^0child;", 2);
     }
 
     private static void checkCommands() {
@@ -296,10 +277,10 @@ public final class ScriptTest {
 
     // The first error of the text counts, and the commands before it are executed before it is met.
     private static void checkOrder() {
-        errorAt(START + "visit 0 0^;garden", 4);
-        errorAt(START + "bed ^7 0 100 x", 2);
-        errorAt(START + "visit 0 0 ^x;", 1);
-        errorAt(START + "sell 1 0 1 child;lost 1;lost ^2;", 2);
-        fine(START + "sell 1 0 1 child;lost 1;replace 1;lost 1;", 2);
+        ScriptCheck.errorAt(START + "visit 0 0^;garden", 4);
+        ScriptCheck.errorAt(START + "bed ^7 0 100 x", 2);
+        ScriptCheck.errorAt(START + "visit 0 0 ^x;", 1);
+        ScriptCheck.errorAt(START + "sell 1 0 1 child;lost 1;lost ^2;", 2);
+        ScriptCheck.fine(START + "sell 1 0 1 child;lost 1;replace 1;lost 1;", 2);
     }
 }
