@@ -9,6 +9,7 @@ public final class CardTest {
         checkReturned();
         checkRefundThatPaysFines();
         checkReturnWithoutCard();
+        checkPassesThatAreNot();
         checkCardsThatAreNot();
         Check.end("CardTest");
     }
@@ -92,16 +93,23 @@ public final class CardTest {
         Check.same("violations", bureau.violations(), 0);
     }
 
+    private static void checkPassesThatAreNot() {
+        GardenBureau bureau = new GardenBureau();
+        for (int pass : new int[] {-1, 3, 30, Integer.MIN_VALUE, Integer.MAX_VALUE}) {
+            Check.throwsIndex("reportLost", () -> bureau.reportLost(pass));
+            Check.throwsIndex("replaceCard", () -> bureau.replaceCard(pass));
+            Check.throwsIndex("refundPass", () -> bureau.refundPass(pass));
+            Check.throwsIndex("cardOf", () -> bureau.cardOf(pass));
+            Check.throwsIndex("isReturned", () -> bureau.isReturned(pass));
+        }
+        Check.same("undoCount", bureau.undoCount(), 0);
+    }
+
     private static void checkCardsThatAreNot() {
         GardenBureau bureau = new GardenBureau();
         for (int card : new int[] {-1, 3, 50, Integer.MIN_VALUE, Integer.MAX_VALUE}) {
             Check.throwsIndex("passOf", () -> bureau.passOf(card));
             Check.throwsIndex("isBlocked", () -> bureau.isBlocked(card));
-            Check.throwsIndex("whyRefused", () -> bureau.whyRefused(card, 0));
-            Check.throwsIndex("sign", () -> bureau.sign(card, 0));
-            Check.throwsIndex("bedsFor", () -> bureau.bedsFor(card));
-            Check.throwsIndex("visit", () -> bureau.visit(card, 0));
-            Check.throwsIndex("pluck", () -> bureau.pluck(card, 0));
         }
         Check.same("undoCount", bureau.undoCount(), 0);
     }

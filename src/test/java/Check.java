@@ -14,8 +14,12 @@ final class Check {
     private Check() {
     }
 
-    /** Says which promise, and which words of the document, the checks that follow are of. */
+    /** Says which promise, and which words of the document, the checks that follow are of; the words must stand there. */
     static void about(int number, String words) {
+        // The check of the words alone does not make the promise one that is checked.
+        promise = 0;
+        subject = "";
+        same("the document says \"" + words + "\"", Texts.DOCUMENT.contains(words), true);
         promise = number;
         subject = "Promise " + number + ", \"" + words + "\": ";
     }

@@ -1,45 +1,20 @@
 import java.lang.reflect.Constructor;
+import java.lang.reflect.Executable;
 import java.lang.reflect.Field;
 import java.lang.reflect.Member;
 import java.lang.reflect.Method;
 import java.lang.reflect.Modifier;
+import java.util.ArrayList;
+import java.util.List;
 import java.util.Set;
 import java.util.TreeMap;
 import java.util.TreeSet;
 
-/** The public face: the constants, and the methods with their parameters and exceptions, and nothing else. */
+/** The public face: what stands in the document under "The public face", and nothing else. */
 public final class FaceTest {
-    private static final String METHODS = "append(5):int truncateInput(1):int!IllegalArgumentException runScript(0):int "
-            + "setPrice(2):int!IndexOutOfBoundsException!IllegalArgumentException setRate(1):int!IllegalArgumentException "
-            + "layBed(4):int!IndexOutOfBoundsException!IllegalArgumentException!IllegalStateException "
-            + "setPeacocks(2):int!IllegalArgumentException setPause(1):int!IllegalArgumentException "
-            + "sell(4):int!IllegalArgumentException!IllegalStateException "
-            + "extend(2):int!IndexOutOfBoundsException!IllegalArgumentException!IllegalStateException "
-            + "addScent(2):int!IndexOutOfBoundsException!IllegalStateException "
-            + "reportLost(1):int!IndexOutOfBoundsException!IllegalStateException "
-            + "replaceCard(1):int!IndexOutOfBoundsException!IllegalStateException "
-            + "refundPass(1):int!IndexOutOfBoundsException!IllegalStateException visit(2):int!IndexOutOfBoundsException "
-            + "pluck(2):int!IndexOutOfBoundsException!IllegalArgumentException!IllegalStateException "
-            + "payFines(2):int!IndexOutOfBoundsException!IllegalArgumentException!IllegalStateException "
-            + "pass(1):int!IllegalArgumentException!IllegalStateException undo(0):int undoCount(0):int "
-            + "saveSnapshot(0):int restoreSnapshot(0):int!NoSuchElementException scriptErrorKind(0):int "
-            + "scriptErrorOffset(0):int time(0):int day(0):int isOpen(0):boolean ticksUntilOpen(0):int bedCount(0):int "
-            + "scentOf(1):int!IndexOutOfBoundsException isInSeason(1):boolean!IndexOutOfBoundsException "
-            + "blooms(1):int!IndexOutOfBoundsException placesLeft(1):int!IndexOutOfBoundsException "
-            + "visitsTo(1):int!IndexOutOfBoundsException passCount(0):int scentsOf(1):int!IndexOutOfBoundsException "
-            + "firstDay(1):int!IndexOutOfBoundsException lastDay(1):int!IndexOutOfBoundsException "
-            + "priceOf(1):int!IndexOutOfBoundsException cardOf(1):int!IndexOutOfBoundsException "
-            + "isReturned(1):boolean!IndexOutOfBoundsException usedDays(1):int!IndexOutOfBoundsException "
-            + "visitsWith(1):int!IndexOutOfBoundsException refundOf(1):int!IndexOutOfBoundsException "
-            + "owed(1):int!IndexOutOfBoundsException ticksUntilReady(1):int!IndexOutOfBoundsException cardCount(0):int "
-            + "passOf(1):int!IndexOutOfBoundsException isBlocked(1):boolean!IndexOutOfBoundsException "
-            + "whyRefused(2):int!IndexOutOfBoundsException sign(2):int!IndexOutOfBoundsException "
-            + "bedsFor(1):int!IndexOutOfBoundsException quote(3):int!IllegalArgumentException "
-            + "fineFor(2):int!IndexOutOfBoundsException!IllegalArgumentException takings(0):int refunds(0):int "
-            + "finesPaid(0):int plucked(0):int alarms(0):int visitsPerDay(0):double blockedShare(0):float violations(0):int "
-            + "writePass(1):int!IndexOutOfBoundsException reportByte(1):int";
-    private static final String CONSTANTS = "{ADULT=0, ALLOWED=0, BED_FULL=7, CARD_BLOCKED=2, CHILD=1, FINES_OPEN=5, "
-            + "GARDEN_CLOSED=1, NODS=0, NONE=-1, NOT_TODAY=3, NO_ROOM=-2, POINTS=1, SHAKES=2, TOO_SOON=6, WRONG_SCENT=4}";
+    private static final String CONSTANT = "public static final int ";
+    private static final int METHODS = 64;
+    private static final int CONSTANTS = 15;
 
     private FaceTest() {
     }
@@ -47,24 +22,38 @@ public final class FaceTest {
     public static void main(String[] args) throws IllegalAccessException {
         Check.same("the class is public and final",
                 GardenBureau.class.getModifiers() & (Modifier.PUBLIC | Modifier.FINAL), Modifier.PUBLIC | Modifier.FINAL);
-        checkMethods();
+        checkCalls();
+        checkNames();
         checkConstants();
-        for (Constructor<?> constructor : GardenBureau.class.getDeclaredConstructors()) {
-            Check.same("constructor", constructor.toString(), "public GardenBureau()");
-        }
+        checkClassesInside();
         Check.end("FaceTest");
     }
 
-    private static void checkMethods() {
-        Set<String> got = new TreeSet<>();
-        Set<String> publicNames = new TreeSet<>();
-        for (Method method : GardenBureau.class.getDeclaredMethods()) {
-            if (isSeen(method)) {
-                got.add(describe(method));
-                publicNames.add(method.getName());
+    private static void checkCalls() {
+        Set<String> due = new TreeSet<>();
+        for (String line : Texts.linesOfBlocks(Texts.DOCUMENT, "java")) {
+            if (line.startsWith("public ") && line.contains("(")) {
+                due.add(withoutNames(line));
             }
         }
-        Check.same("methods", got.toString(), new TreeSet<>(Set.of(METHODS.split(" "))).toString());
+        Set<String> got = new TreeSet<>();
+        for (Method method : GardenBureau.class.getDeclaredMethods()) {
+            if (isSeen(method)) {
+                got.add(describe(method, method.getReturnType().getSimpleName() + " " + method.getName()));
+            }
+        }
+        for (Constructor<?> constructor : GardenBureau.class.getDeclaredConstructors()) {
+            got.add(describe(constructor, "GardenBureau"));
+        }
+        Check.same("the document's methods and its constructor", due.size(), METHODS + 1);
+        Check.same("the methods and the constructor", got.toString(), due.toString());
+    }
+
+    private static void checkNames() {
+        Set<String> publicNames = new TreeSet<>();
+        for (Method method : GardenBureau.class.getMethods()) {
+            publicNames.add(method.getName());
+        }
         for (Method method : GardenBureau.class.getDeclaredMethods()) {
             if (!isSeen(method)) {
                 Check.same(method.getName() + " is also public", publicNames.contains(method.getName()), false);
@@ -73,27 +62,57 @@ public final class FaceTest {
     }
 
     private static void checkConstants() throws IllegalAccessException {
+        TreeMap<String, Integer> due = new TreeMap<>();
+        for (String line : Texts.linesOfBlocks(Texts.DOCUMENT, "java")) {
+            if (line.startsWith(CONSTANT)) {
+                for (String constant : line.substring(CONSTANT.length(), line.length() - 1).split(", ")) {
+                    String[] parts = constant.split(" = ");
+                    due.put(parts[0], Integer.valueOf(parts[1]));
+                }
+            }
+        }
         TreeMap<String, Integer> got = new TreeMap<>();
         for (Field field : GardenBureau.class.getDeclaredFields()) {
             if (isSeen(field)) {
-                Check.same(field.getName() + " is static and final",
-                        field.getModifiers() & (Modifier.STATIC | Modifier.FINAL), Modifier.STATIC | Modifier.FINAL);
+                Check.same("the declaration of " + field.getName(), field.toString(),
+                        CONSTANT + "GardenBureau." + field.getName());
                 got.put(field.getName(), field.getInt(null));
             }
         }
-        Check.same("constants", got.toString(), CONSTANTS);
+        Check.same("the document's constants", due.size(), CONSTANTS);
+        Check.same("the constants", got.toString(), due.toString());
+    }
+
+    private static void checkClassesInside() {
+        for (Class<?> inside : GardenBureau.class.getDeclaredClasses()) {
+            Check.same(inside.getSimpleName() + " is public or protected",
+                    inside.getModifiers() & (Modifier.PUBLIC | Modifier.PROTECTED), 0);
+        }
     }
 
     private static boolean isSeen(Member member) {
         return !Modifier.isPrivate(member.getModifiers());
     }
 
-    private static String describe(Method method) {
-        StringBuilder text = new StringBuilder(method.getName());
-        text.append('(').append(method.getParameterCount()).append("):").append(method.getReturnType().getSimpleName());
-        for (Class<?> type : method.getExceptionTypes()) {
-            text.append('!').append(type.getSimpleName());
+    // "public int pluck(int card, int blooms) throws X, Y;" becomes "public int pluck(int, int) throws X, Y".
+    private static String withoutNames(String line) {
+        return line.replaceAll("(int|boolean|long|double|float) \\w+(?=[,)])", "$1").replace(";", "");
+    }
+
+    private static String describe(Executable call, String name) {
+        StringBuilder text = new StringBuilder(Modifier.toString(call.getModifiers()));
+        text.append(' ').append(name).append('(').append(names(call.getParameterTypes())).append(')');
+        if (call.getExceptionTypes().length > 0) {
+            text.append(" throws ").append(names(call.getExceptionTypes()));
         }
         return text.toString();
+    }
+
+    private static String names(Class<?>[] types) {
+        List<String> names = new ArrayList<>();
+        for (Class<?> type : types) {
+            names.add(type.getSimpleName());
+        }
+        return String.join(", ", names);
     }
 }

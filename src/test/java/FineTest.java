@@ -10,6 +10,7 @@ public final class FineTest {
         checkBlooms();
         checkBlockedCards();
         checkPayFines();
+        checkNumbersThatAreNot();
         Check.end("FineTest");
     }
 
@@ -104,5 +105,15 @@ public final class FineTest {
         Check.same("takings", bureau.takings(), 395);
         Check.same("refunds", bureau.refunds(), 0);
         Check.same("undoCount", bureau.undoCount(), 3);
+    }
+
+    private static void checkNumbersThatAreNot() {
+        GardenBureau bureau = new GardenBureau();
+        for (int number : new int[] {-1, 3, 50, Integer.MIN_VALUE, Integer.MAX_VALUE}) {
+            Check.throwsIndex("pluck", () -> bureau.pluck(number, 0));
+            Check.throwsIndex("payFines", () -> bureau.payFines(number, 0));
+            Check.throwsIndex("owed", () -> bureau.owed(number));
+        }
+        Check.same("undoCount", bureau.undoCount(), 0);
     }
 }

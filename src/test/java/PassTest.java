@@ -107,6 +107,9 @@ public final class PassTest {
         Check.same("by 13 days", bureau.extend(pass, 13), 672 - 60);
         Check.same("priceOf", bureau.priceOf(pass), 672);
         Check.same("used days stay", bureau.usedDays(0), 1);
+        Check.same("undo", bureau.undo(), 7);
+        Check.same("the last day of before", bureau.lastDay(pass), 0);
+        Check.same("the price of before", bureau.priceOf(pass), 60);
     }
 
     private static void checkWrongExtensions() {
@@ -224,13 +227,6 @@ public final class PassTest {
             Check.throwsIndex("usedDays", () -> bureau.usedDays(pass));
             Check.throwsIndex("visitsWith", () -> bureau.visitsWith(pass));
             Check.throwsIndex("refundOf", () -> bureau.refundOf(pass));
-            Check.throwsIndex("owed", () -> bureau.owed(pass));
-            Check.throwsIndex("ticksUntilReady", () -> bureau.ticksUntilReady(pass));
-            Check.throwsIndex("writePass", () -> bureau.writePass(pass));
-            Check.throwsIndex("reportLost", () -> bureau.reportLost(pass));
-            Check.throwsIndex("replaceCard", () -> bureau.replaceCard(pass));
-            Check.throwsIndex("refundPass", () -> bureau.refundPass(pass));
-            Check.throwsIndex("payFines", () -> bureau.payFines(pass, 0));
         }
         Check.same("undoCount", bureau.undoCount(), 0);
     }

@@ -15,6 +15,7 @@ public final class VisitTest {
         checkTooSoon();
         checkReplacedCard();
         checkBedsFor();
+        checkNumbersThatAreNot();
         Check.end("VisitTest");
     }
 
@@ -209,5 +210,20 @@ public final class VisitTest {
         Check.same("a card of another day", bureau.bedsFor(2), 0);
         Check.same("alarms", bureau.alarms(), 0);
         Check.same("all beds", Feed.bureau("garden 9;" + "bed 0 1 0 0;".repeat(8) + "sell 1 0 1 adult;pass 32;").bedsFor(0), 255);
+    }
+
+    private static void checkNumbersThatAreNot() {
+        GardenBureau bureau = new GardenBureau();
+        for (int number : new int[] {-1, 3, 50, Integer.MIN_VALUE, Integer.MAX_VALUE}) {
+            Check.throwsIndex("visit", () -> bureau.visit(number, 0));
+            Check.throwsIndex("visit", () -> bureau.visit(1, number));
+            Check.throwsIndex("ticksUntilReady", () -> bureau.ticksUntilReady(number));
+            Check.throwsIndex("whyRefused", () -> bureau.whyRefused(number, 0));
+            Check.throwsIndex("whyRefused", () -> bureau.whyRefused(1, number));
+            Check.throwsIndex("sign", () -> bureau.sign(number, 0));
+            Check.throwsIndex("sign", () -> bureau.sign(1, number));
+            Check.throwsIndex("bedsFor", () -> bureau.bedsFor(number));
+        }
+        Check.same("undoCount", bureau.undoCount(), 0);
     }
 }
